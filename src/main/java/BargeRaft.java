@@ -26,8 +26,9 @@ public final class BargeRaft {
     private static final int BEST_CELLS = 6;
     // Four barges or fewer in six cells: 1 + 4 * 6 + 6 * 30 + 4 * 120 + 360 rafts.
     private static final int BEST_RAFTS = 1045;
-    // A code tells of each of four barges one of six cells or none: 7 to the fourth.
-    private static final int BEST_CODES = 2401;
+    // A code has three bits for each of four barges: 0, or one more than the barge's cell.
+    private static final int BEST_CODES = 4096;
+    private static final int CODE_BITS = 3;
     // Above every minute that can come, and low enough that sums of two stay ints.
     private static final int FAR = 500000000;
     // A shortest row of acts at one stop meets no raft twice, so it is far below this.
@@ -1599,28 +1600,19 @@ public final class BargeRaft {
         final int[] codes = new int[BEST_RAFTS];
         final int[] bits = new int[BEST_RAFTS];
         final int[] aboard = new int[BEST_RAFTS];
-        private final int[] places = new int[BEST_RAFTS * BEST_BARGES];
-        // A RAFT with BARGE i in CELL c has a code that is c + 1 times steps[i] above that without it.
-        final int[] steps = new int[BEST_BARGES];
 
         void listAll(int barges, int cells) {
             codes[0] = 0;
             bits[0] = 0;
             aboard[0] = 0;
-            for (int i = 0; i < BEST_BARGES; i++) {
-                places[i] = NONE;
-            }
             listed = 1;
-            int step = 1;
             for (int i = 0; i < barges && i < BEST_BARGES; i++) {
-                steps[i] = step;
                 int known = listed;
                 for (int p = 0; p < known; p++) {
                     for (int c = 0; c < cells && c < BEST_CELLS; c++) {
                         addWith(p, i, c);
                     }
                 }
-                step *= cells + 1;
             }
         }
 
@@ -1628,17 +1620,20 @@ public final class BargeRaft {
             if ((bits[p] >> c & 1) == 1 || listed >= BEST_RAFTS) {
                 return;
             }
-            codes[listed] = codes[p] + (c + 1) * steps[i];
+            codes[listed] = codeWith(codes[p], i, c);
             bits[listed] = bits[p] | 1 << c;
             aboard[listed] = aboard[p] | 1 << i;
-            System.arraycopy(places, p * BEST_BARGES, places, listed * BEST_BARGES, BEST_BARGES);
-            places[listed * BEST_BARGES + i] = c;
             listed++;
+        }
+
+        /** The code of a RAFT to which BARGE i comes, into CELL c. */
+        static int codeWith(int code, int i, int c) {
+            return code | c + 1 << i * CODE_BITS;
         }
 
         /** The CELL of BARGE i in a RAFT. */
         int placeOf(int p, int i) {
-            return places[p * BEST_BARGES + i];
+            return (codes[p] >> i * CODE_BITS & 7) - 1;
         }
     }
 
@@ -1786,12 +1781,11 @@ public final class BargeRaft {
         private boolean move(int p, int i, int stop) {
             int code = rafts.codes[p];
             int bits = rafts.bits[p];
-            int step = rafts.steps[i];
             int loose = comes[i] == stop ? ready[code] : FAR;
             for (int c = 0; c < grid.cells; c++) {
                 if ((bits >> c & 1) == 0) {
                     int cost = costs[sideCosts + (bits | 1 << c) * BEST_CELLS + c];
-                    loose = Math.min(loose, ready[code + (c + 1) * step] + cost);
+                    loose = Math.min(loose, ready[Rafts.codeWith(code, i, c)] + cost);
                 }
             }
             if (loose >= FAR) {
@@ -1803,9 +1797,10 @@ public final class BargeRaft {
             }
             for (int c = 0; c < grid.cells; c++) {
                 if ((bits >> c & 1) == 0) {
+                    int with = Rafts.codeWith(code, i, c);
                     int then = loose + costs[sideCosts + (bits | 1 << c) * BEST_CELLS + c];
-                    if (then < ready[code + (c + 1) * step]) {
-                        ready[code + (c + 1) * step] = then;
+                    if (then < ready[with]) {
+                        ready[with] = then;
                         better = true;
                     }
                 }
