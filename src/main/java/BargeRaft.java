@@ -634,11 +634,7 @@ public final class BargeRaft {
         final int[] bargeNames = new int[BARGES_MOST];
 
         River() {
-            broad = 3;
-            rows = 3;
-            knot = 5;
-            hold = 3;
-            turn = 10;
+            empty();
         }
 
         void empty() {

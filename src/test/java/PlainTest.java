@@ -68,10 +68,10 @@ public final class PlainTest {
             s.append("knot ").append(roll(1, 9)).append(";");
         }
         if (chance(70)) {
-            s.append("hold ").append(roll(0, 9)).append(";");
+            s.append("hold ").append(roll(0, chance(50) ? 9 : 40)).append(";");
         }
         if (chance(70)) {
-            s.append("turn ").append(roll(0, 30)).append(";");
+            s.append("turn ").append(roll(0, chance(50) ? 30 : 60)).append(";");
         }
         return s.toString();
     }

@@ -121,6 +121,8 @@ public final class PlanPromisesTest {
         Due.due("what -1", x.judged(-1), -1);
         x.judge(1440);
         Due.due("the latest that was not -2", x.judged(1), 12);
+        judged(x, "off x;", 0, 0, 1, 0, 0);
+        judged(x, "", 0, 0, 0, 0, 0, 0, 0, 0);
         BargeRaft none = new BargeRaft();
         Due.due("no quay", none.judge(0), -2);
         BargeRaft one = Calls.on("quay a left;");
@@ -144,6 +146,23 @@ public final class PlanPromisesTest {
         BargeRaft y = Calls.on(river);
         judged(y, "on x 0 0;on y 0 1;shift x 1 0;", 0, 3, 0, 1 + 3 + 0, 0, 1, 1, 0);
         judged(y, "on y 0 1;on x 0 0;", 0, 2, 0, 3, 0, 0, 1, 0);
+    }
+
+    /** Four in two rows: who is taken from behind others unties their knots and ties them again. */
+    private static void blockersTied() {
+        BargeRaft x = Calls.on("quay a left;quay b right;leg 4 6 10 9 9;barge p a b 1;barge q a b 1;barge r a b 1;barge s a b 1;"
+            + "raft 2 2;knot 1;hold 1;turn 60;");
+        String four = "on q 0 1;on s 1 1;on p 0 0;on r 1 0;";
+        judged(x, four, 0, 4, 0, 1 + 1 + 2, 0, 0, 4, 0);
+        // q by the left way: its 2 knots and p's other one, that is tied again; p is held. Then back again.
+        Calls.lay(x, 1, 2, 3, 4);
+        Due.due("q is behind p", x.taking(1, 0), 3 + 1 + 1);
+        // Shifted where p was it would be in nobody's way: so q goes to another cell there is none of.
+        judged(x, four + "shift q 0 0;", 0, 4, 3, 4, 0, 0, 4, 0);
+        // At b p comes off by the right way, q in the way: untied 3, tied 1.
+        judged(x, four + "go;off p;", 0, 6, 0, 4 + 10 + 3 + 1 + 1, 1, 3, 4 + 1, 0);
+        // To put q behind p: untied is p's knot with r, tied are that one and both of q.
+        judged(x, "on s 1 1;on p 0 0;on r 1 0;on q 0 1;", 0, 4, 0, 0 + 0 + 2 + (1 + 3 + 1), 0, 1, 2 + 3, 0);
     }
 
     private static void upAndDown() {
@@ -180,6 +199,7 @@ public final class PlanPromisesTest {
         promise21();
         promise22and23();
         rightsAndLocks();
+        blockersTied();
         upAndDown();
         promise24();
         Due.close("PlanPromisesTest");

@@ -91,6 +91,10 @@ public final class SearchPromisesTest {
         x.water(6);
         Due.due("too deep", x.best(500), -1);
         Due.due("no quay", new BargeRaft().best(0), -2);
+        Due.due("no quay, a small raft", Calls.on("raft 2 2;").best(0), -2);
+        // Only x may lie in the middle. At the left quays it goes z, x, y on, and y, x, z off.
+        Due.due("in the order that has no blockers", Calls.on("quay a left;quay b left;leg 3 1 10 9 1;"
+            + "barge y a b 1;barge z a b 1;barge x a b 5;raft 3 1;knot 1;hold 20;turn 30;").best(0), 2 + 10 + 2 + 10);
         BargeRaft one = Calls.on("quay a left open 5 6;raft 2 3;");
         Due.due("one quay", one.best(0), 0);
         Due.due("nine cells", Calls.on("quay a left;").best(0), -2);

@@ -99,6 +99,7 @@ public final class TextPromisesTest {
         riverFault("quay 1 left;", 5, 1);
         riverFault("quay go left;", 5, 1);
         riverFault("quay a off;", 7, 1);
+        riverFault("quay a open 1 2;", 7, 1);
         riverFault("quay a left.", 11, 1);
         riverFault("quay a left;;", 12, 1);
         riverFault("quay a left open 1;", 18, 1);
@@ -236,6 +237,8 @@ public final class TextPromisesTest {
         Due.due("large lay", Calls.lay(large, row), 3);
         Due.due("large knots", large.knots(), 2);
         Due.due("last cell", large.cell(23), 0);
+        Due.due("behind the last cell", large.cell(24), -1);
+        Due.due("behind the last cell", large.taking(24, 0), -1);
     }
 
     private static void promise12and13() {
@@ -277,6 +280,15 @@ public final class TextPromisesTest {
         Calls.lay(x, 0, 2, 3, 4, 5, 6, 7, 8, 9);
         Due.due("nothing there", x.taking(0, 0), -1);
         Due.due("nothing is changed", x.knots(), 10);
+        // Without these lines a knot needs 5, to hold 3, to turn 10, whatever the river before it told.
+        BargeRaft plain = Calls.on("raft 1 1;knot 9;hold 9;turn 9;");
+        Calls.river(plain, all.toString());
+        Calls.lay(plain, 1, 2, 0, 0, 0, 0, 0, 0, 0);
+        Due.due("knot and hold", plain.taking(1, 0), 5 + 3);
+        Calls.lay(plain, 1, 0, 2, 3, 4, 0, 0, 0, 0);
+        Due.due("three rows, three columns", plain.count(3) * 10 + plain.count(4), 33);
+        Calls.lay(plain, 1, 4, 3, 2, 5, 6, 0, 0, 0);
+        Due.due("turn", plain.taking(5, 0), 10 + 10);
         BargeRaft y = Calls.on(all + "knot 1;hold 0;turn 0;");
         Calls.lay(y, 0, 1, 0, 0, 0, 0, 0, 0, 0);
         Due.due("like ones: left ahead of back", y.taking(1, 0), 0);
