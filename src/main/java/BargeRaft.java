@@ -706,8 +706,9 @@ public final class BargeRaft {
             return NONE;
         }
 
+        /** Whether two BARGES are apart; an empty CELL is apart from nobody. */
         boolean areApart(int a, int b) {
-            return (bargePart(a, APART_BITS) >> b & 1) == 1;
+            return a != NONE && b != NONE && (barges[a * BARGE_PARTS + APART_BITS] >> b & 1) == 1;
         }
 
         int stopCount() {
@@ -955,19 +956,15 @@ public final class BargeRaft {
             for (int r = 0; r < grid.rows; r++) {
                 for (int c = 0; c < grid.broad; c++) {
                     int k = r * grid.broad + c;
-                    if (c + 1 < grid.broad && clash(cells[k], cells[k + 1])) {
+                    if (c + 1 < grid.broad && river.areApart(cells[k], cells[k + 1])) {
                         return false;
                     }
-                    if (r + 1 < grid.rows && clash(cells[k], cells[k + grid.broad])) {
+                    if (r + 1 < grid.rows && river.areApart(cells[k], cells[k + grid.broad])) {
                         return false;
                     }
                 }
             }
             return true;
-        }
-
-        private boolean clash(int a, int b) {
-            return a != NONE && b != NONE && river.areApart(a, b);
         }
 
         /** Whether it FITS a LEG that is so many more broad and long than told. */
