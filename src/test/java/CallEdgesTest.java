@@ -289,6 +289,22 @@ public final class CallEdgesTest {
         Due.missing("act 0 of an earlier river", () -> w.act(0, 0));
     }
 
+    private static void acts() {
+        Due.says("Promise 21: 0 what (0 off, 1 on, 2 shift, 3 go), 1 the BARGE, 2 row, 3 column (NONE: none)");
+        BargeRaft x = full();
+        String[] texts = {"on w 5 3;shift z 4 2;off y;go;", "go;off x;shift y 1 1;on z 0 0;", "off w;go;go;off x;", "shift w 0 3;on w 5 0;on x 1 2;shift x 3 3;"};
+        int[][][] dues = {{{1, 3, 5, 3}, {2, 2, 4, 2}, {0, 1, -1, -1}, {3, -1, -1, -1}}, {{3, -1, -1, -1}, {0, 0, -1, -1}, {2, 1, 1, 1}, {1, 2, 0, 0}},
+            {{0, 3, -1, -1}, {3, -1, -1, -1}, {3, -1, -1, -1}, {0, 0, -1, -1}}, {{2, 3, 0, 3}, {1, 3, 5, 0}, {1, 0, 1, 2}, {2, 0, 3, 3}}};
+        for (int t : new int[] {0, 1, 2, 3, 2, 0, 3, 1}) {
+            Due.due("plan " + texts[t], Calls.plan(x, texts[t]), 4);
+            for (int i = 0; i < 4; i++) {
+                for (int w = 0; w < 4; w++) {
+                    Due.due("act " + i + " " + w + " of " + texts[t], x.act(i, w), dues[t][i][w]);
+                }
+            }
+        }
+    }
+
     private static void stops() {
         Due.says("Promise 8: 4 the STOP at which it comes on, 5 off");
         BargeRaft x = Calls.on("quay a left;quay b left;quay c left;leg 1 1 1 1 1;leg 1 1 1 1 1;"
@@ -547,6 +563,7 @@ public final class CallEdgesTest {
         emptyTape();
         faults();
         throwing();
+        acts();
         stops();
         lay();
         cells();

@@ -260,6 +260,11 @@ public final class PlanEdgesTest {
         judged(river, "on x 0 0;on y 0 1;go;shift x 0 1;", 0, 3, 3, 68, 1, 0, 1, 50);
         // One that is shifted waits, too; the next one at that STOP does not.
         judged(river, "on x 0 0;on y 0 1;go;shift x 1 0;off y;", 0, 5, 0, 50 + 8 + 10 + 1372 + 5 + 0 + 0, 1, 1, 1, 1422);
+        // Done past closing: the third one is not the first, whenever it is.
+        String shut = "quay a left open 0 1;quay b left;leg 4 6 10 9 9;barge x a b 1;barge y a b 1;barge z a b 1;raft 1 3;knot 9;hold 0;turn 0;";
+        judged(shut, "on x 0 0;on y 1 0;on z 2 0;", 0, 3, 0, 9 + 9, 0, 0, 2, 0);
+        judged(shut, "on x 0 0;on y 1 0;on z 2 0;shift z 2 0;", 0, 3, 3, 9 + 9, 0, 0, 2, 0);
+        judged(shut, "on x 0 0;on y 2 0;on z 1 0;go;off z;off x;off y;go;", 0, -1, 0, 18 + 10 + 18 + 10, 2, 2, 2, 0);
         Due.says("'go' does not wait");
         String three = "quay a left;quay b left open 700 701;quay c left;leg 4 6 1 9 9;leg 4 6 1 9 9;barge x a c 1;";
         judged(three, "on x 0 0;go;go;off x;go;go;", 0, -1, 0, 4, 4, 0, 0, 0);
@@ -277,6 +282,14 @@ public final class PlanEdgesTest {
     private static final String FOUR = "quay a left;quay b left;quay c left;leg 2 2 10 9 4 lock 2 5;leg 2 2 10 9 4;"
         + "barge x a b 1;barge y a c 1;barge z b c 1;barge w a c 5;raft 3 3;knot 1;hold 0;turn 0;";
 
+    private static String manyDown(int many) {
+        StringBuilder s = new StringBuilder();
+        for (int b = 0; b < many; b++) {
+            s.append("barge ").append((char) ('p' + b)).append(" b a 1;");
+        }
+        return s.toString();
+    }
+
     private static void wrongActs() {
         Due.says("1 off, shift: the BARGE is not on the RAFT");
         judged(FOUR, "off x;", 0, 0, 1);
@@ -291,6 +304,10 @@ public final class PlanEdgesTest {
         Due.says("1 on: it is not DUE there, or came already");
         judged(FOUR, "on z 0 0;", 0, 0, 1);
         judged(FOUR, "on x 0 0;on x 1 0;", 0, 1, 1);
+        judged(FOUR, "on y 0 0;on y 1 0;", 0, 1, 1);
+        judged(FOUR, "on x 0 0;on y 1 0;on w 2 0;on w 2 1;", 0, 3, 1);
+        judged(FOUR, "on w 0 0;on y 1 0;on x 2 0;on w 2 1;", 0, 3, 1);
+        judged("quay a left;quay b left;leg 4 6 1 9 9;" + manyDown(9), "go;on p 0 0;on q 0 1;on x 0 2;on x 1 0;", 0, 4, 1);
         judged(narrow, b + "off x;on x 0 0;", 0, 7, 1);
         judged(narrow, b + "on y 2 2;", 0, 6, 1);
         judged(narrow, b + "on z 0 2;", 0, 7, 0);
@@ -459,6 +476,29 @@ public final class PlanEdgesTest {
         Due.same("the latest stays", Looks.told(x), told);
     }
 
+    private static void twice() {
+        Due.says("DONE: begun at STOP 0, with an empty RAFT, nobody having come or gone");
+        BargeRaft x = Calls.on(TWO);
+        String whole = "on x 0 0;on y 1 0;go;off y;off x;go;";
+        int[] told = {0, 4 + 10 + 4 + 10, 2, 1, 1, 0};
+        for (int times = 0; times < 3; times++) {
+            judged(x, whole, 0, -1, told);
+            judged(x, "on x 0 0;on y 1 0;go;go;", 0, 3, 5, 14, 1, 0, 1, 0);
+            judged(x, "on x 0 0;on y 1 0;go;off y;go;", 0, 4, 5, 18, 1, 1, 1, 0);
+            judged(x, "", 0, 0, 0, 0, 0, 0, 0, 0);
+            judged(x, "go;", 0, 0, 5, 0, 0, 0, 0, 0);
+            judged(x, "off x;", 0, 0, 1, 0, 0, 0, 0, 0);
+        }
+        BargeRaft open = Calls.on("quay a left open 7 9;quay b left;leg 4 6 10 9 9;barge x a b 1;");
+        for (int minute : new int[] {0, 7, 9, 0}) {
+            int wait = minute == 7 ? 0 : minute == 9 ? 1438 : 7;
+            judged(open, "on x 0 0;", minute, 1, 0, wait, 0, 0, 0, wait);
+        }
+        // The largest GRID, from its first CELL to its last one.
+        BargeRaft large = Calls.on("quay a left;quay b left;leg 1 6 10 9 9 lock 1 7;barge x a b 1;barge y b a 1;raft 4 6;");
+        judged(large, "on x 0 0;shift x 5 3;go;off x;on y 5 0;shift y 0 3;go;off y;", 0, -1, 0, 10 + 7 + 10 + 7, 2, 0, 0, 0);
+    }
+
     private static void told() {
         Due.says("Promise 23: 0 why it was WRONG (1 to 8; 0: it was not), 1 minutes till then, 2 the STOP, 3 KNOTS UNTIED, 4 TIED in all, 5 minutes waited");
         String river = "quay a left open 20 30;quay b left;leg 4 6 10 9 9 lock 1 5;barge x a b 1;barge y a b 1;raft 2 2;knot 4;hold 3;turn 60;";
@@ -552,6 +592,7 @@ public final class PlanEdgesTest {
         mostActs();
         ends();
         minutes();
+        twice();
         told();
         cellsThen();
         ofThen();

@@ -254,6 +254,14 @@ public final class RaftEdgesTest {
             }
         }
         BargeRaft x = Calls.on(river("leg 4 6 1 9 9;", ""));
+        int[] corners = new int[24];
+        corners[0] = 1;
+        corners[23] = 2;
+        fits("leg 4 6 1 9 9;", 0, 1, "4 6", corners);
+        fits("leg 3 6 1 9 9;", 0, 0, "4 6", corners);
+        fits("leg 4 5 1 9 9;", 0, 0, "4 6", corners);
+        corners[0] = 0;
+        fits("leg 1 1 1 9 9;", 0, 1, "4 6", corners);
         Due.says("Promise 15: NONE: no such one");
         for (int k : new int[] {-1, 2, 3, 31, 32, Integer.MIN_VALUE, Integer.MAX_VALUE}) {
             Due.due("fits " + k, x.fits(k), -1);
@@ -353,6 +361,9 @@ public final class RaftEdgesTest {
         passes("4 1", 1, -2, 0, 1, 0, 2, 0);
         passes("2 3", 1, 1, 0, 0, 0, 0, 0, 0, 1);
         passes("2 3", 1, 2, 0, 1, 0, 0, 0, 0, 2);
+        passes("4 6", 1, 2, 0, 1, 0, 0, 0, 0, 0, 0, 0, 0, 0, 0, 0, 0, 0, 0, 0, 0, 0, 0, 0, 0, 0, 0, 2);
+        passes("4 6", 2, 1, 0, 1, 0, 0, 0, 0, 0, 0, 0, 0, 0, 0, 0, 0, 0, 0, 0, 0, 0, 0, 0, 0, 0, 0, 2);
+        passes("4 6", 1, 1, 0, 0, 0, 0, 0, 0, 0, 0, 0, 0, 0, 0, 0, 0, 0, 0, 0, 0, 0, 0, 0, 0, 0, 0, 2);
         Due.says("the fewest times, of like ones with the fewest KNOTS between rows of unlike times");
         // Two, two, one: a knot lies behind the second row, two behind the first.
         passes("2 3", 4, 2, 1, 1, 2, 3, 4, 5, 0);

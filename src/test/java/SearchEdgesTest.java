@@ -112,6 +112,8 @@ public final class SearchEdgesTest {
         seated("both", Calls.on("quay a both;quay b both;quay c both;" + four), second, 1, 0, 2, 3);
         seated("right: p told ahead not to the left", Calls.on("quay a both;quay b right;quay c both;" + four), row(0, 1, 2, 3), 1, 0, 2, 3);
         seated("left: p told ahead to the left", Calls.on("quay a both;quay b left;quay c both;" + four), row(0, 1, 2, 3), 0, 1, 2, 3);
+        // Behind the first told lies one that stays: at a QUAY of both sides p is free by the left, q in the middle not at all.
+        seated("both: by the left", Calls.on("quay a both;quay b both;quay c both;" + four), row(0, 1, 2, 3), 0, 1, 2, 3);
         // By the back: the SIDES of b are blocked, nobody is behind p.
         seated("left is blocked, back is not", Calls.on("quay a both;quay b left;quay c both;" + four), row(1, 0, 2), 1, 0, 2, -1);
         String six = "leg 4 6 1 9 9;leg 4 6 1 9 9;barge p a b 1;barge q a c 1;barge r a c 1;barge s a c 1;barge t a c 1;barge u a c 1;raft 3 2;";
@@ -396,6 +398,26 @@ public final class SearchEdgesTest {
         hired(three + cut, 1, 2 + 5 + 5 + 50 + 2 + 55 + 5);
     }
 
+    private static void hiredAlone() {
+        Due.says("HIRED, IN VAIN, LEFT OUT: each by itself");
+        String simple = "quay a both;quay b both open 500 501;quay c both;leg 1 1 10 9 9;leg 1 1 20 9 9;barge p a b 1;raft 1 1;";
+        BargeRaft x = Calls.on(simple);
+        Due.due("hired", x.hired(0), 0);
+        Due.due("p is not in vain", x.hiredBy(), 550);
+        Due.due("p in vain", x.vain(0, 0), 510);
+        Due.due("hired again", x.hired(0), 0);
+        Due.due("p is not in vain", x.hiredBy(), 550);
+        String narrow = QUAYS + "leg 1 1 5 9 9;barge p a b 1;barge q a b 1;barge r a b 1;raft 2 1;knot 2;";
+        BargeRaft y = Calls.on(narrow.replace("barge r a b 1;", ""));
+        Due.due("hired", y.hired(0), 0);
+        Due.due("no leg is hired, p in vain", y.vain(0, 0), -1);
+        Due.due("no leg is hired, best", y.best(0), -1);
+        BargeRaft z = Calls.on(narrow);
+        Due.due("hired does not help three", z.hired(0), -1);
+        Due.due("no leg is hired, one left out", z.without(2, 0), -1);
+        Due.due("hired with two of them", Calls.on(narrow.replace("barge r a b 1;", "")).hired(0), 0);
+    }
+
     private static void hiredCalls() {
         Due.says("Promise 27: -2: as for best(), or no LEG. Promise 28: by the latest hired() that was 0 or above; NONE ahead of any");
         BargeRaft x = Calls.on("quay a both;raft 2 1;");
@@ -550,6 +572,35 @@ public final class SearchEdgesTest {
         }
     }
 
+    /** Four that go up together, in all GRIDS of six CELLS and less, some apart, one for the middle. */
+    private static void plainFour() throws Plain.Fault {
+        Due.says("BEST of four BARGES at once, GRIDS of 6 CELLS at most; the same object asked one after the other");
+        String[] grids = {"2 3", "3 2", "1 6", "1 4", "4 1", "2 2", "1 5"};
+        String[] aparts = {"", " apart p", " apart q", " apart r", " apart p apart q", " apart p apart r", " apart q apart r"};
+        BargeRaft x = new BargeRaft();
+        for (String grid : grids) {
+            for (String apart : aparts) {
+                String river = "quay a left;quay b right open 40 41;quay c both;leg 3 5 10 9 2;leg 4 6 20 9 9 lock 2 3;barge p a c 1;barge q a b 1;barge r a c 3;"
+                    + "barge s a c 1" + apart + ";raft " + grid + ";knot 2;hold 3;turn 4;";
+                Plain p = new Plain();
+                p.readRiver(river);
+                Calls.river(x, river);
+                Due.due("best of " + grid + apart, x.best(0), p.best(0, -1, -1, -1));
+                for (int b = 0; b < 4; b++) {
+                    Due.due("without " + b + " of " + grid + apart, x.without(b, 9), p.best(9, -1, -1, b));
+                }
+                Due.due("vain 1 of " + grid + apart, x.vain(1, 0), p.best(0, -1, 1, -1));
+                Due.due("best again of " + grid + apart, x.best(0), p.best(0, -1, -1, -1));
+            }
+            x = new BargeRaft();
+        }
+        BargeRaft y = Calls.on(QUAYS + "leg 4 6 5 9 9;barge p a b 1;barge q a b 1 apart p;barge r a b 1;raft 2 1;knot 1;");
+        Due.due("p and q", y.without(2, 0), -1);
+        Due.due("p and r", y.without(1, 0), 12);
+        Due.due("p and q again", y.without(2, 0), -1);
+        Due.due("q and r", y.without(0, 0), 12);
+    }
+
     public static void main(String[] args) throws Plain.Fault {
         firstMany();
         firstBytes();
@@ -560,10 +611,12 @@ public final class SearchEdgesTest {
         bestMinutes();
         bestWaits();
         hiredLegs();
+        hiredAlone();
         hiredCalls();
         vain();
         without();
         plain();
+        plainFour();
         Due.close("SearchEdgesTest");
     }
 }

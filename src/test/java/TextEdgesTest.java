@@ -187,6 +187,10 @@ public final class TextEdgesTest {
         BargeRaft x = taken("quay a left;", 1);
         Due.due("A without", x.quay(0, 1), 0);
         Due.due("B without", x.quay(0, 2), 1440);
+        BargeRaft again = taken("quay a left open 3 4;", 1);
+        Due.due("the next text", Calls.river(again, "quay a left;"), 1);
+        Due.due("A without, behind a text with", again.quay(0, 1), 0);
+        Due.due("B without, behind a text with", again.quay(0, 2), 1440);
         x = taken("quay a left open 3 4;quay b right;leg 1 1 1 1 1;", 3);
         Due.due("A without, behind one with", x.quay(1, 1), 0);
         Due.due("B without, behind one with", x.quay(1, 2), 1440);
@@ -244,6 +248,9 @@ public final class TextEdgesTest {
                 Due.due("leg " + k + " " + w, x.leg(k, w), legs[k][w]);
             }
         }
+        Due.due("the next text", Calls.river(x, TWO + "leg 1 1 1 1 1;"), 3);
+        Due.due("N without, behind a text with", x.leg(0, 5), 0);
+        Due.due("EACH without, behind a text with", x.leg(0, 6), 0);
         refused(TWO + "leg 1 1 1 1;", 36, 1);
         refused(TWO + "leg 1 1 1 1 1 1;", 39, 1);
         refused(TWO + "leg 1 1 1 1 1 lock;", 43, 1);
@@ -349,6 +356,14 @@ public final class TextEdgesTest {
         Due.says("'turn' N (0 to 60): once");
         setting("turn", 0, 60);
         taken("raft 1 1;knot 1;hold 1;turn 1;", 4);
+        Due.says("raft, knot, hold, turn told twice (at it)");
+        refused("raft 1 1;knot 1;hold 1;turn 1;raft 1 1;", 30, 3);
+        refused("raft 1 1;knot 1;hold 1;turn 1;knot 1;", 30, 3);
+        refused("raft 1 1;knot 1;hold 1;turn 1;hold 1;", 30, 3);
+        refused("raft 1 1;knot 1;hold 1;turn 1;turn 1;", 30, 3);
+        refused("turn 1;quay a left;raft 1 1;turn 1;", 28, 3);
+        BargeRaft twice = taken("raft 1 1;knot 1;hold 1;turn 1;", 4);
+        Due.due("in the next text they are told again", Calls.river(twice, "turn 1;hold 1;knot 1;raft 1 1;"), 4);
     }
 
     /** To TAKE the second of two side by side at a left quay: by the left way one is held, by the back one it turns. */
