@@ -572,6 +572,47 @@ public final class SearchEdgesTest {
         }
     }
 
+    /** Texts in all orders: each has every LINE that is told, once. */
+    private static void inAllOrders(String ahead, String[] lines, int used, java.util.List<String> all) {
+        if (used == (1 << lines.length) - 1) {
+            all.add(ahead);
+            return;
+        }
+        for (int i = 0; i < lines.length; i++) {
+            if ((used >> i & 1) == 0) {
+                inAllOrders(ahead + lines[i], lines, used | 1 << i, all);
+            }
+        }
+    }
+
+    /** Four in six CELLS, each of which must lie where it does on one LEG, or it takes longer. */
+    private static void onlyRaft() {
+        Due.says("BEST (BARGES 4 at most, GRIDS of 6 CELLS at most): four in six CELLS where no other RAFT will do");
+        // From d on they lie in one column, r between p and q, which are apart; ahead of it in two columns, two rows.
+        // On the LEG from c to d that is q r, and behind them s p, in the rows 1 and 2, for these reasons:
+        // p comes after q at a right QUAY: so p lies to the right, behind r, where nobody is in the way (5), not q.
+        // s comes at a right QUAY, too: p is in its way, so it needs the back (10, and 2 to turn), behind q, not ahead of it.
+        // s goes at a left QUAY, from the left (10); q, also on the left, goes ahead of r (10), so row 0 must be empty.
+        String quays = "quay a left;quay b right;quay c right;quay d left;quay e left;";
+        String legs = "leg 2 2 9 9 9;leg 2 2 9 9 9;leg 2 2 9 9 9;leg 1 3 9 9 9;raft 2 3;knot 5;hold 60;turn 2;";
+        String[] told = {"barge p b e 1;", "barge s c d 1;", "barge r a e 1;", "barge q a e 1;"};
+        String plan = "on r 1 1;on q 1 0;go;on p 2 1;go;on s 2 0;go;off s;shift q 0 1;go;off p;off r;off q;go;go;go;go;";
+        int minutes = 5 + 5 + (10 + 2) + 10 + 10 + 10 + 8 * 9;
+        java.util.List<String> orders = new java.util.ArrayList<>();
+        inAllOrders("", told, 0, orders);
+        Due.due("orders of four", orders.size(), 24);
+        for (String order : orders) {
+            // Who is told later tells that it is apart from the other one.
+            boolean last = order.indexOf("barge q") > order.indexOf("barge p");
+            String barges = last ? order.replace("q a e 1", "q a e 1 apart p") : order.replace("p b e 1", "p b e 1 apart q");
+            best(quays + legs + barges, 0, minutes, plan);
+            // With left and right in each other's place they lie in the other column.
+            String other = quays.replace("left", "?").replace("right", "left").replace("?", "right");
+            String mirrored = "on r 1 0;on q 1 1;go;on p 2 0;go;on s 2 1;go;off s;shift q 0 0;go;off p;off r;off q;go;go;go;go;";
+            best(other + legs + barges, 0, minutes, mirrored);
+        }
+    }
+
     /** Four that go up together, in all GRIDS of six CELLS and less, some apart, one for the middle. */
     private static void plainFour() throws Plain.Fault {
         Due.says("BEST of four BARGES at once, GRIDS of 6 CELLS at most; the same object asked one after the other");
@@ -617,6 +658,7 @@ public final class SearchEdgesTest {
         without();
         plain();
         plainFour();
+        onlyRaft();
         Due.close("SearchEdgesTest");
     }
 }
